@@ -331,7 +331,7 @@ public final class SecretDinner {
             saved[MOST_SAVED - 1] = oldest;
             savedCount = MOST_SAVED - 1;
         }
-        Dinner place = saved[savedCount];
+        Dinner place = savedAt(savedCount);
         if (place != null) {
             place.copyFrom(now);
         }
@@ -340,13 +340,14 @@ public final class SecretDinner {
 
     /** Brings back the saved state that stands just behind those that remain. */
     private void restore() {
-        if (savedCount < 0 || savedCount >= MOST_SAVED) {
-            return;
-        }
-        Dinner place = saved[savedCount];
+        Dinner place = savedAt(savedCount);
         if (place != null) {
             now.copyFrom(place);
         }
+    }
+
+    private Dinner savedAt(int place) {
+        return place >= 0 && place < saved.length ? saved[place] : null;
     }
 
     private static boolean isCard(int card) {
