@@ -52,47 +52,21 @@ public final class EveningTest {
 
     // ---- promise 2
 
-    /** The hands and the culprit's card by the words of the document: {s, culprit, hand 0, hand 1, ..}. */
-    private static long[] dealt(int guests, long s) {
-        int[] sizes = guests == 3 ? new int[] {3, 2, 2} : new int[] {2, 2, 2, 1};
-        long[] result = new long[2 + guests];
-        s = (1103515245L * s + 12345L) % 2147483648L;
-        result[1] = s / 65536 % 8;
-        int places = 7;
-        for (int card = 0; card < 8; card++) {
-            if (card == result[1]) {
-                continue;
-            }
-            s = (1103515245L * s + 12345L) % 2147483648L;
-            long place = s / 65536 % places;
-            places--;
-            int guest = 0;
-            while (place >= sizes[guest]) {
-                place -= sizes[guest];
-                guest++;
-            }
-            sizes[guest]--;
-            result[2 + guest] |= 1L << card;
-        }
-        result[0] = s;
-        return result;
-    }
-
     private static void beginDeals() {
         int[] seeds = {0, 1, 2, 7, 99, 4096, 65536, 123456, 654321, 999998, 999999};
         for (int guests = 3; guests <= 4; guests++) {
             for (int seed : seeds) {
                 SecretDinner house = new SecretDinner();
                 Check.due("begin answers", house.begin(guests, seed), guests == 3 ? 3 : 2);
-                dueDealt(house, dealt(guests, seed));
+                dueDealt(house, Houses.dealt(guests, seed));
                 long next = house.value(7);
                 house.begin(7 - guests, SecretDinner.NONE);
-                dueDealt(house, dealt(7 - guests, next));
+                dueDealt(house, Houses.dealt(7 - guests, next));
             }
         }
         SecretDinner house = new SecretDinner();
         house.begin(4, SecretDinner.NONE);
-        dueDealt(house, dealt(4, 1));
+        dueDealt(house, Houses.dealt(4, 1));
     }
 
     private static void dueDealt(SecretDinner house, long[] due) {
@@ -161,28 +135,16 @@ public final class EveningTest {
 
     // ---- promise 3
 
-    /** The hand of a guest in the evening that goes on, by a look that is undone. */
-    private static int peek(SecretDinner house, int guest) {
-        house.accuse(0);
-        int hand = house.guest(guest, 7);
-        house.undo();
-        return hand;
-    }
-
     private static void askTruthAndLies() {
         for (int guests = 3; guests <= 4; guests++) {
-            SecretDinner house = new SecretDinner();
-            house.begin(guests, 31 * guests);
             for (int guest = 0; guest < guests; guest++) {
-                int hand = peek(house, guest);
-                int size = house.guest(guest, 0);
+                int hand = Houses.hand(guests, 31 * guests, guest);
                 for (int cards = 1; cards <= 255; cards += guest + 1) {
+                    SecretDinner house = Houses.evening(guests, 31 * guests);
                     int right = Integer.bitCount(hand & cards);
-                    int most = Math.min(size, Integer.bitCount(cards));
+                    int most = Math.min(house.guest(guest, 0), Integer.bitCount(cards));
                     Check.due("the truth", house.ask(guest, cards, false), right);
-                    house.undo();
                     Check.due("the lie", house.ask(guest, cards, true), right + 1 > most ? 0 : right + 1);
-                    house.undo();
                 }
             }
         }
@@ -228,7 +190,7 @@ public final class EveningTest {
         Check.refused(house, "question 21", STATE, () -> house.ask(0, 1, false));
         Check.refused(house, "question 21", ARGUMENT, () -> house.ask(0, 0, false));
         Check.refused(house, "question 21", INDEX, () -> house.ask(4, 0, false));
-        Check.due("a proof behind 20 questions", house.prove(0, 1) ? 1 : 0, peek(house, 0) >> 1 & 1);
+        Check.due("a proof behind 20 questions", house.prove(0, 1) ? 1 : 0, Houses.peek(house, 0) >> 1 & 1);
         house.undo();
         house.undo();
         Check.due("a question undone", house.value(2), 19);
@@ -244,7 +206,7 @@ public final class EveningTest {
             house.begin(guests, 77);
             int proofs = 0;
             for (int guest = 0; guest < guests; guest++) {
-                int hand = peek(house, guest);
+                int hand = Houses.peek(house, guest);
                 for (int card = 0; card < 8; card++) {
                     Check.due("proof", house.prove(guest, card), (hand >> card & 1) == 1);
                     proofs++;
@@ -411,7 +373,7 @@ public final class EveningTest {
     private static void guestByPossibleDeals() {
         SecretDinner house = new SecretDinner();
         house.begin(3, 5);
-        int hand = peek(house, 1);
+        int hand = Houses.peek(house, 1);
         int notHeld = Integer.lowestOneBit(~hand & 255);
         house.ask(1, notHeld, false);
         Check.due("one answer alone tells no lie", house.guest(1, 6), 0);

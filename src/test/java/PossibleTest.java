@@ -21,33 +21,13 @@ public final class PossibleTest {
         Check.end();
     }
 
-    /** The hand of a guest in the evening that goes on, by a look that is undone. */
-    private static int peek(SecretDinner house, int guest) {
-        house.accuse(0);
-        int hand = house.guest(guest, 7);
-        house.undo();
-        return hand;
-    }
-
-    private static int peekCulprit(SecretDinner house) {
-        int culprit = house.accuse(0);
-        house.undo();
-        return culprit;
-    }
-
-    private static SecretDinner evening(int guests, int s) {
-        SecretDinner house = new SecretDinner();
-        house.begin(guests, s);
-        return house;
-    }
-
     // ---- promises 10 to 12
 
     private static void allDeals() {
         int[][] sizes = {{3, 2, 2}, {2, 2, 2, 1}};
         int[] all = {1680, 5040};
         for (int guests = 3; guests <= 4; guests++) {
-            SecretDinner house = evening(guests, 4);
+            SecretDinner house = Houses.evening(guests, 4);
             int deals = all[guests - 3];
             Check.due("deals", house.deals(), deals);
             for (int card = 0; card < 8; card++) {
@@ -60,8 +40,8 @@ public final class PossibleTest {
     }
 
     private static void dealsBehindProofs() {
-        SecretDinner house = evening(3, 6);
-        int hand = peek(house, 0);
+        SecretDinner house = Houses.evening(3, 6);
+        int hand = Houses.peek(house, 0);
         int held = Integer.numberOfTrailingZeros(hand);
         int other = Integer.numberOfTrailingZeros(~hand);
         house.prove(0, held);
@@ -84,8 +64,8 @@ public final class PossibleTest {
     }
 
     private static void oneWrongAnswerIsForgiven() {
-        SecretDinner house = evening(4, 6);
-        int hand = peek(house, 3);
+        SecretDinner house = Houses.evening(4, 6);
+        int hand = Houses.peek(house, 3);
         int other = Integer.lowestOneBit(~hand & 255);
         house.ask(3, hand, false);
         Check.due("one answer", house.deals(), 5040);
@@ -104,9 +84,9 @@ public final class PossibleTest {
     }
 
     private static void wrongAnswersOfTwoGuests() {
-        SecretDinner house = evening(4, 9);
-        int first = Integer.lowestOneBit(peek(house, 0));
-        int second = Integer.lowestOneBit(peek(house, 1));
+        SecretDinner house = Houses.evening(4, 9);
+        int first = Integer.lowestOneBit(Houses.peek(house, 0));
+        int second = Integer.lowestOneBit(Houses.peek(house, 1));
         house.ask(0, first, false);
         house.ask(1, first, false);
         house.ask(1, second, true);
@@ -120,15 +100,15 @@ public final class PossibleTest {
     }
 
     private static void whatIsHiddenDoesNotMatter() {
-        SecretDinner house = evening(3, 14);
-        int hand = peek(house, 2);
+        SecretDinner house = Houses.evening(3, 14);
+        int hand = Houses.peek(house, 2);
         int other = Integer.lowestOneBit(~hand & 255);
         house.ask(2, other, true);
         house.ask(2, other, false);
         int deals = house.deals();
         house.leave(2);
         Check.due("who has left does not matter", house.deals(), deals);
-        int culprit = peekCulprit(house);
+        int culprit = Houses.peekCulprit(house);
         house.accuse((culprit + 1) % 8);
         Check.due("nor whether the evening is over", house.deals(), deals);
         Check.due("nor that the culprit is known", Integer.bitCount(house.culprits()) > 1, true);
@@ -145,13 +125,13 @@ public final class PossibleTest {
     // ---- promises 13 and 14
 
     private static void culpritsAndLikeliest() {
-        SecretDinner house = evening(3, 15);
+        SecretDinner house = Houses.evening(3, 15);
         Check.due("culprits", house.culprits(), 255);
         Check.due("likeliest", house.likeliest(), 0);
-        int culprit = peekCulprit(house);
+        int culprit = Houses.peekCulprit(house);
         int left = 255;
         for (int guest = 0; guest < 3; guest++) {
-            int hand = peek(house, guest);
+            int hand = Houses.peek(house, guest);
             for (int card = 0; card < 8; card++) {
                 if ((hand >> card & 1) == 1) {
                     house.prove(guest, card);
@@ -169,8 +149,8 @@ public final class PossibleTest {
 
     private static void likeliestIsNotTheLowest() {
         for (int s = 0; s < 40; s++) {
-            SecretDinner house = evening(4, s);
-            int culprit = peekCulprit(house);
+            SecretDinner house = Houses.evening(4, s);
+            int culprit = Houses.peekCulprit(house);
             // Nobody holds the culprit's card, and each says so by a proof: it is certain then.
             for (int guest = 0; guest < 4; guest++) {
                 house.prove(guest, culprit);
@@ -188,9 +168,9 @@ public final class PossibleTest {
     // ---- promise 15
 
     private static void chance() {
-        SecretDinner house = evening(3, 15);
+        SecretDinner house = Houses.evening(3, 15);
         Check.due("an eighth", house.chance(0), 0.125);
-        int hand = peek(house, 0);
+        int hand = Houses.peek(house, 0);
         int held = Integer.numberOfTrailingZeros(hand);
         int other = Integer.numberOfTrailingZeros(~hand);
         house.prove(0, held);
@@ -232,11 +212,11 @@ public final class PossibleTest {
     // ---- promises 16 and 17
 
     private static void dealsIf() {
-        SecretDinner house = evening(3, 19);
+        SecretDinner house = Houses.evening(3, 19);
         for (int answer = 0; answer <= 8; answer++) {
             Check.due("the first answer may be wrong", house.dealsIf(0, 1, answer), 1680);
         }
-        int hand = peek(house, 0);
+        int hand = Houses.peek(house, 0);
         house.ask(0, hand, false);
         // The answer 3 is right in 30 of the deals, and wrong in the others.
         Check.due("again the same", house.dealsIf(0, hand, 3), 30);
@@ -246,7 +226,7 @@ public final class PossibleTest {
         Check.due("worst for all cards", house.worst(0, 255), 1680);
         Check.due("all cards, 3", house.dealsIf(0, 255, 3), 1680);
         Check.due("all cards, 2", house.dealsIf(0, 255, 2), 30);
-        sameAsAsking(house);
+        sameAsAsking();
     }
 
     /** Of 56 hands of three 15 share two cards with a known one, 30 one, 10 none: 30 deals to each. */
@@ -254,28 +234,29 @@ public final class PossibleTest {
         return 30 * 30;
     }
 
-    private static void sameAsAsking(SecretDinner house) {
-        house.ask(1, 60, true);
-        house.ask(1, 85, false);
-        house.ask(2, 7, false);
+    private static void sameAsAsking() {
         for (int guest = 0; guest < 3; guest++) {
             for (int cards = 1; cards <= 255; cards += 7) {
+                SecretDinner house = Houses.evening(3, 19);
+                house.ask(0, Houses.hand(3, 19, 0), false);
+                house.ask(1, 60, true);
+                house.ask(1, 85, false);
+                house.ask(2, 7, false);
                 int most = 0;
                 for (int answer = 0; answer <= 8; answer++) {
                     most = Math.max(most, house.dealsIf(guest, cards, answer));
                 }
                 Check.due("worst is the greatest dealsIf", house.worst(guest, cards), most);
-                int answer = Integer.bitCount(peek(house, guest) & cards);
+                int answer = Integer.bitCount(Houses.hand(3, 19, guest) & cards);
                 int expected = house.dealsIf(guest, cards, answer);
                 house.ask(guest, cards, false);
                 Check.due("dealsIf foretells deals", house.deals(), expected);
-                house.undo();
             }
         }
     }
 
     private static void dealsIfWhenNobodyCanBeAsked() {
-        SecretDinner house = evening(4, 20);
+        SecretDinner house = Houses.evening(4, 20);
         for (int i = 0; i < 20; i++) {
             house.ask(i % 2, 1 << i % 8, false);
         }
@@ -316,12 +297,12 @@ public final class PossibleTest {
     // ---- promise 18
 
     private static void bestCards() {
-        SecretDinner house = evening(4, 22);
+        SecretDinner house = Houses.evening(4, 22);
         for (int guest = 0; guest < 4; guest++) {
             Check.due("all questions alike", house.bestCards(guest), 1);
         }
         for (int s = 0; s < 30; s++) {
-            SecretDinner other = evening(3 + s % 2, s);
+            SecretDinner other = Houses.evening(3 + s % 2, s);
             for (int i = 0; i < 1 + s % 7; i++) {
                 other.ask(s % 3, 1 + (s * 37 + i * 91) % 255, i == 2);
             }
@@ -345,15 +326,15 @@ public final class PossibleTest {
     // ---- promise 19
 
     private static void leftByProof() {
-        SecretDinner house = evening(3, 23);
+        SecretDinner house = Houses.evening(3, 23);
         Check.due("guest 0", house.leftByProof(0, 4), (630.0 * 630.0 + 1050.0 * 1050.0) / 1680.0);
         Check.due("guest 1", house.leftByProof(1, 4), (420.0 * 420.0 + 1260.0 * 1260.0) / 1680.0);
-        int hand = peek(house, 0);
+        int hand = Houses.peek(house, 0);
         int held = Integer.numberOfTrailingZeros(hand);
         house.prove(0, held);
         Check.due("it is known", house.leftByProof(0, held), 630.0);
         Check.due("it is known of others, too", house.leftByProof(1, held), 630.0);
-        SecretDinner four = evening(4, 23);
+        SecretDinner four = Houses.evening(4, 23);
         Check.due("guest 3 of 4", four.leftByProof(3, 0), (630.0 * 630.0 + 4410.0 * 4410.0) / 5040.0);
     }
 }

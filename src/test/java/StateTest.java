@@ -15,39 +15,6 @@ public final class StateTest {
         Check.end();
     }
 
-    private static SecretDinner evening(int guests, int s) {
-        SecretDinner house = new SecretDinner();
-        house.begin(guests, s);
-        return house;
-    }
-
-    /** All answers but those about the text and the saved states, in one line. */
-    private static String seen(SecretDinner house) {
-        StringBuilder line = new StringBuilder();
-        for (int what = 0; what < 10; what++) {
-            line.append(house.value(what)).append(' ');
-        }
-        for (int guest = 0; guest < house.value(0); guest++) {
-            for (int what = 0; what < 8; what++) {
-                line.append(house.guest(guest, what)).append(' ');
-            }
-            for (int card = 0; card < 8; card++) {
-                line.append(house.dealsHeld(guest, card)).append(' ');
-            }
-            line.append(house.bestCards(guest)).append(' ');
-        }
-        for (int question = 0; question < house.value(2); question++) {
-            for (int what = 0; what < 3; what++) {
-                line.append(house.question(question, what)).append(' ');
-            }
-        }
-        line.append(house.deals()).append(' ').append(house.culprits());
-        for (int card = 0; card < 8; card++) {
-            line.append(' ').append(house.dealsWith(card));
-        }
-        return line.toString();
-    }
-
     private static void move(SecretDinner house, int number) {
         switch (number) {
             case 0 -> house.begin(3, 50);
@@ -63,43 +30,61 @@ public final class StateTest {
 
     // ---- promise 23
 
-    private static void undoEachMove() {
+    /** A new object behind the first moves, so that none is used for more than 512 calls. */
+    private static SecretDinner afterMoves(int number) {
         SecretDinner house = new SecretDinner();
-        for (char c : "a1:0246;p1:1;".toCharArray()) {
-            house.append(c);
+        Houses.write(house, "a1:0246;p1:1;");
+        for (int i = 0; i < number; i++) {
+            move(house, i);
         }
+        return house;
+    }
+
+    private static void undoEachMove() {
         for (int number = 0; number < 8; number++) {
-            String before = seen(house);
-            int count = Math.min(number, 3);
+            SecretDinner house = afterMoves(number + 1);
+            Check.due("undo move " + number, house.undo(), Math.min(number, 3));
+            String before = Houses.seen(afterMoves(number));
+            Check.due("state before move " + number, Houses.seen(house), before);
             move(house, number);
-            String behind = seen(house);
-            Check.due("undo move " + number, house.undo(), count);
-            Check.due("state before move " + number, seen(house), before);
+            Check.due("state behind move " + number, house.digest(), afterMoves(number + 1).digest());
+            house = afterMoves(number + 1);
+            house.undo();
             move(house, number);
-            Check.due("state behind move " + number, seen(house), behind);
+            String behind = Houses.seen(afterMoves(number + 1));
+            Check.due("state behind move " + number, Houses.seen(house), behind);
         }
     }
 
-    private static void undoKeepsFourStates() {
-        SecretDinner house = evening(4, 51);
-        String[] states = new String[12];
-        for (int i = 0; i < 11; i++) {
-            states[i] = seen(house);
+    private static SecretDinner afterQuestions(int number) {
+        SecretDinner house = Houses.evening(4, 51);
+        for (int i = 0; i < number; i++) {
             house.ask(i % 4, 3 * i + 1, i == 5);
         }
+        return house;
+    }
+
+    private static void undoKeepsFourStates() {
+        for (int back = 1; back <= 4; back++) {
+            SecretDinner house = afterQuestions(11);
+            for (int i = 1; i <= back; i++) {
+                Check.due("undo", house.undo(), 4 - i);
+            }
+            Check.due("state", Houses.seen(house), Houses.seen(afterQuestions(11 - back)));
+        }
+        SecretDinner house = afterQuestions(11);
         for (int i = 0; i < 4; i++) {
-            Check.due("undo", house.undo(), 3 - i);
-            Check.due("state", seen(house), states[10 - i]);
+            house.undo();
         }
         Check.refused(house, "the oldest are dropped", STATE, house::undo);
         Check.refused(house, "undo is not undoable", STATE, house::undo);
         house.prove(0, 0);
         Check.due("one state again", house.undo(), 0);
-        Check.due("state", seen(house), states[7]);
+        Check.due("state", Houses.seen(house), Houses.seen(afterQuestions(7)));
     }
 
     private static void undoIsLastInFirstOut() {
-        SecretDinner house = evening(3, 52);
+        SecretDinner house = Houses.evening(3, 52);
         house.prove(0, 0);
         house.prove(0, 0);
         house.prove(0, 0);
@@ -119,7 +104,7 @@ public final class StateTest {
     }
 
     private static void undoLeavesTheText() {
-        SecretDinner house = evening(3, 53);
+        SecretDinner house = Houses.evening(3, 53);
         house.append('g');
         house.leave(0);
         house.append('1');
@@ -134,7 +119,7 @@ public final class StateTest {
     }
 
     private static void refusedCallsSaveNothing() {
-        SecretDinner house = evening(3, 54);
+        SecretDinner house = Houses.evening(3, 54);
         Check.refused(house, "begin", STATE, () -> house.begin(3, 1));
         Check.refused(house, "ask", IndexOutOfBoundsException.class, () -> house.ask(3, 1, false));
         Check.refused(house, "accuse", IndexOutOfBoundsException.class, () -> house.accuse(8));
@@ -142,12 +127,16 @@ public final class StateTest {
     }
 
     private static void undoneMovesCanBeMadeAnew() {
-        SecretDinner house = evening(4, 55);
+        SecretDinner liar = Houses.evening(4, 55);
+        liar.ask(0, 15, true);
+        String seen = Houses.seen(liar);
+        SecretDinner house = Houses.evening(4, 55);
         house.ask(0, 15, true);
-        String liar = seen(house);
         house.undo();
         house.ask(0, 15, true);
-        Check.due("the lie was undone with its question", seen(house), liar);
+        Check.due("the lie was undone with its question", Houses.seen(house), seen);
+        house = Houses.evening(4, 55);
+        house.ask(0, 15, true);
         house.undo();
         house.undo();
         house.begin(3, 56);
@@ -155,7 +144,7 @@ public final class StateTest {
         house.undo();
         house.begin(4, 55);
         house.ask(0, 15, true);
-        Check.due("and the first one again", seen(house), liar);
+        Check.due("and the first one again", Houses.seen(house), seen);
     }
 
     // ---- promise 24
@@ -197,9 +186,7 @@ public final class StateTest {
 
     private static void digestByItsWords() {
         SecretDinner house = new SecretDinner();
-        for (char c : "a1:0246;p1:1;".toCharArray()) {
-            house.append(c);
-        }
+        Houses.write(house, "a1:0246;p1:1;");
         for (int number = 0; number < 8; number++) {
             Check.due("digest", house.digest(), byItsWords(house, 13, Math.min(number, 4)));
             move(house, number);
@@ -210,7 +197,7 @@ public final class StateTest {
     }
 
     private static void digestSeesEachPart() {
-        SecretDinner house = evening(4, 57);
+        SecretDinner house = Houses.evening(4, 57);
         long first = house.digest();
         house.append('a');
         Check.due("the text's length", house.digest() == first, false);

@@ -16,19 +16,6 @@ public final class TextTest {
         Check.end();
     }
 
-    private static void write(SecretDinner house, String text) {
-        house.clearText();
-        for (int i = 0; i < text.length(); i++) {
-            house.append(text.charAt(i));
-        }
-    }
-
-    private static SecretDinner evening(int guests, int s) {
-        SecretDinner house = new SecretDinner();
-        house.begin(guests, s);
-        return house;
-    }
-
     // ---- promise 20
 
     private static void append() {
@@ -50,9 +37,9 @@ public final class TextTest {
     // ---- promise 21
 
     private static void clearText() {
-        SecretDinner house = evening(3, 1);
+        SecretDinner house = Houses.evening(3, 1);
         Check.due("empty", house.clearText(), 0);
-        write(house, "a0:1;g1");
+        Houses.write(house, "a0:1;g1");
         Check.due("length", house.clearText(), 7);
         Check.due("length", house.clearText(), 0);
         Check.due("an empty text has no error", house.play(), 0);
@@ -80,8 +67,8 @@ public final class TextTest {
         for (Object[] row : rows) {
             String text = (String) row[0];
             int error = (Integer) row[1];
-            SecretDinner house = evening(4, 2);
-            write(house, text);
+            SecretDinner house = Houses.evening(4, 2);
+            Houses.write(house, text);
             long before = house.digest();
             int played = house.play();
             if (error < 0) {
@@ -101,10 +88,10 @@ public final class TextTest {
             for (int value = 0; value < 128; value++) {
                 StringBuilder changed = new StringBuilder(text);
                 changed.setCharAt(at, (char) value);
-                SecretDinner house = evening(3, 2);
+                SecretDinner house = Houses.evening(3, 2);
                 PlainDinner plain = new PlainDinner();
                 plain.begin(3, 2);
-                write(house, changed.toString());
+                Houses.write(house, changed.toString());
                 for (int i = 0; i < changed.length(); i++) {
                     plain.append(changed.charAt(i));
                 }
@@ -114,21 +101,21 @@ public final class TextTest {
     }
 
     private static void longestText() {
-        SecretDinner house = evening(3, 2);
-        write(house, "p0:1;".repeat(18));
+        SecretDinner house = Houses.evening(3, 2);
+        Houses.write(house, "p0:1;".repeat(18));
         Check.due("18 items in 90 bytes", house.play(), 18);
         Check.due("18 proofs", house.value(3), 18);
         Check.due("all of one guest", house.guest(0, 3), 18);
-        write(house, "p0:1;".repeat(17) + "g0;g1");
+        Houses.write(house, "p0:1;".repeat(17) + "g0;g1");
         Check.due("cut off by the limit", house.play(), -100);
-        write(house, "g0;".repeat(30));
+        Houses.write(house, "g0;".repeat(30));
         Check.due("30 items, one is possible", house.play(), 1);
     }
 
     private static void playsLikeCalls() {
-        SecretDinner house = evening(4, 33);
-        SecretDinner calls = evening(4, 33);
-        write(house, "a0:01;l1:01234567;p2:3;g3;a2:7;l0:2;");
+        SecretDinner house = Houses.evening(4, 33);
+        SecretDinner calls = Houses.evening(4, 33);
+        Houses.write(house, "a0:01;l1:01234567;p2:3;g3;a2:7;l0:2;");
         Check.due("all six", house.play(), 6);
         calls.ask(0, 3, false);
         calls.ask(1, 255, true);
@@ -154,8 +141,8 @@ public final class TextTest {
     }
 
     private static void duePlayed(String text, int guests, int played) {
-        SecretDinner house = evening(guests, 3);
-        write(house, text);
+        SecretDinner house = Houses.evening(guests, 3);
+        Houses.write(house, text);
         Check.due("\"" + text + "\"", house.play(), played);
         Check.due("it was saved", house.undo(), 1);
     }
@@ -170,11 +157,11 @@ public final class TextTest {
         duePlayed("p3:1;g0;", 3, 0);
         duePlayed("g3;g0;", 3, 0);
         duePlayed("a3:1;l3:1;p3:1;g3;", 4, 4);
-        SecretDinner house = evening(3, 3);
+        SecretDinner house = Houses.evening(3, 3);
         for (int i = 0; i < 18; i++) {
             house.ask(0, 1, false);
         }
-        write(house, "a1:1;p1:1;a1:2;a1:3;g1;");
+        Houses.write(house, "a1:1;p1:1;a1:2;a1:3;g1;");
         Check.due("20 questions", house.play(), 3);
         Check.due("20 questions", house.value(2), 20);
         Check.due("the rest is not played", house.value(8), 3);
@@ -184,17 +171,17 @@ public final class TextTest {
 
     private static void playWithoutAnEvening() {
         SecretDinner house = new SecretDinner();
-        write(house, "a0:1;");
+        Houses.write(house, "a0:1;");
         Check.due("no evening", house.play(), 0);
         Check.due("it was saved all the same", house.undo(), 0);
-        write(house, "a0:1");
+        Houses.write(house, "a0:1");
         Check.due("an error", house.play(), -14);
         Check.refused(house, "nothing was saved", STATE, house::undo);
     }
 
     private static void playIsOneSavedState() {
-        SecretDinner house = evening(3, 4);
-        write(house, "a0:1;p1:2;g2;l0:1;");
+        SecretDinner house = Houses.evening(3, 4);
+        Houses.write(house, "a0:1;p1:2;g2;l0:1;");
         // The play to come is saved as one state more than these.
         long before = house.digest();
         Check.due("play", house.play(), 4);
@@ -204,7 +191,7 @@ public final class TextTest {
         long empty = house.digest();
         Check.due("no items", house.play(), 0);
         Check.due("the same, and one saved state more", house.digest(), empty + 1);
-        write(house, "a0:1;x");
+        Houses.write(house, "a0:1;x");
         Check.due("an error", house.play(), -15);
         Check.due("saved by play and begin alone", house.undo(), 1);
     }

@@ -14,6 +14,7 @@ public final class WalkTest {
     private final int wild;
     private final SecretDinner house = new SecretDinner();
     private final PlainDinner plain = new PlainDinner();
+    private int calls;
 
     private WalkTest(long seed) {
         random = new Random(seed);
@@ -28,10 +29,9 @@ public final class WalkTest {
     }
 
     private void walk(int seed) {
-        int calls = 0;
         while (calls < CALLS) {
             if (random.nextInt(12) == 0) {
-                calls += writeText(seed);
+                writeText(seed);
             }
             boolean moves = random.nextInt(100) < 45;
             String name = moves ? MOVES[random.nextInt(MOVES.length)] : LOOKS[random.nextInt(LOOKS.length)];
@@ -43,18 +43,16 @@ public final class WalkTest {
             }
             compare(seed, name, arguments(name));
             compare(seed, "digest", new Object[0]);
-            calls += 2;
         }
     }
 
-    private int writeText(int seed) {
+    private void writeText(int seed) {
         compare(seed, "clearText", new Object[0]);
         String text = randomText();
         for (int i = 0; i < text.length(); i++) {
             compare(seed, "append", new Object[] {(int) text.charAt(i)});
         }
         compare(seed, "play", new Object[0]);
-        return text.length() + 2;
     }
 
     private String randomText() {
@@ -114,6 +112,10 @@ public final class WalkTest {
     }
 
     private void compare(int seed, String name, Object[] arguments) {
+        if (calls >= CALLS) {
+            return;
+        }
+        calls++;
         String call = "walk " + seed + ": " + name + Arrays.toString(arguments);
         Check.due(call, outcome(house, name, arguments), outcome(plain, name, arguments));
     }
