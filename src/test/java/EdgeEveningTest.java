@@ -27,6 +27,8 @@ public final class EdgeEveningTest {
         guestCardsItMayHold();
         guestLiedForCertain();
         guestLiedByAProof();
+        guestLiedInTheOneDeal();
+        guestByEachProof();
         guestHandIsHidden();
         valueOfGuests();
         valueOfQuestionsAndProofs();
@@ -429,6 +431,40 @@ public final class EdgeEveningTest {
         Check.due("a truth that is proved is no lie", house.guest(0, 6), 0);
     }
 
+    private static void guestLiedInTheOneDeal() {
+        SecretDinner house = Houses.evening(4, 96);
+        house.ask(0, 1, true);
+        house.ask(3, 1, false);
+        for (int guest = 0; guest < 4; guest++) {
+            for (int card = 0; card < 8; card++) {
+                house.prove(guest, card);
+            }
+        }
+        Check.due("one deal", house.deals(), 1);
+        Check.due("guest 0 has lied", house.guest(0, 6), 1);
+        Check.due("guest 3 has not", house.guest(3, 6), 0);
+    }
+
+    /** Each card, the first and the last one, too, is certain or ruled out by its proof. */
+    private static void guestByEachProof() {
+        for (int guests = 3; guests <= 4; guests++) {
+            for (int s = 0; s < 12; s++) {
+                for (int guest = 0; guest < guests; guest++) {
+                    int hand = Houses.hand(guests, s, guest);
+                    SecretDinner house = Houses.evening(guests, s);
+                    house.prove(guest, 0);
+                    Check.due("card 0 for certain", house.guest(guest, 4) & 1, hand & 1);
+                    Check.due("card 0, maybe", house.guest(guest, 5) & 1, hand & 1);
+                    house.prove(guest, 7);
+                    Check.due("card 7 for certain", house.guest(guest, 4) & 128, hand & 128);
+                    Check.due("card 7, maybe", house.guest(guest, 5) & 128, hand & 128);
+                    Check.due("cards for certain", house.guest(guest, 4) & ~hand, 0);
+                    Check.due("the hand, maybe", house.guest(guest, 5) & hand, hand);
+                }
+            }
+        }
+    }
+
     /** "Its hand as a set, or NONE while an evening goes on". */
     private static void guestHandIsHidden() {
         SecretDinner house = Houses.evening(3, 97);
@@ -586,8 +622,9 @@ public final class EdgeEveningTest {
     /** "Of this evening, or of the latest one". */
     private static void questionOfTheLatestEvening() {
         SecretDinner house = Houses.evening(4, 104);
+        int[] answers = new int[20];
         for (int i = 0; i < 20; i++) {
-            house.ask(3, 200 + i, false);
+            answers[i] = house.ask(3 - i % 2, 200 + i, i == 0);
         }
         Check.due("the last question", house.question(19, 1), 219);
         Check.refused(house, "the one behind it", INDEX, () -> house.question(20, 1));
@@ -596,12 +633,16 @@ public final class EdgeEveningTest {
         Check.refused(house, "the one behind it", INDEX, () -> house.question(20, 1));
         house.begin(4, 104);
         Check.refused(house, "none yet", INDEX, () -> house.question(0, 1));
-        house.ask(0, 7, false);
-        Check.due("of this evening", house.question(0, 1), 7);
+        Check.due("other answer", house.ask(0, 254 & ~Houses.hand(4, 104, 0), false), 0);
+        Check.due("of this evening", house.question(0, 1), 254 & ~Houses.hand(4, 104, 0));
         Check.refused(house, "one alone", INDEX, () -> house.question(1, 1));
         house.undo();
         house.undo();
-        Check.due("of the latest one again", house.question(0, 1), 200);
-        Check.due("of the latest one again", house.question(19, 1), 219);
+        for (int i = 0; i < 20; i++) {
+            Check.due("guest of the latest one again", house.question(i, 0), 3 - i % 2);
+            Check.due("cards of the latest one again", house.question(i, 1), 200 + i);
+            Check.due("answer of the latest one again", house.question(i, 2), answers[i]);
+        }
+        Check.due("the first answer was another one", answers[0] > 0, true);
     }
 }

@@ -17,6 +17,8 @@ public final class EdgePossibleTest {
         culpritsFromAllToOne();
         likeliestOfSeveralTheLowest();
         likeliestNotTheLowest();
+        likeliestOfOneDeal();
+        likeliestIsACard();
         likeliestBeforeTheFirstEvening();
         chanceFromZeroToOne();
         chanceIsOneDivision();
@@ -185,6 +187,32 @@ public final class EdgePossibleTest {
         house.prove(0, 6);
         Check.due("two alike: the lower one", house.likeliest(), 6);
         Check.due("as many deals", house.dealsWith(6), house.dealsWith(7));
+    }
+
+    private static void likeliestOfOneDeal() {
+        for (int guests = 3; guests <= 4; guests++) {
+            SecretDinner house = Houses.evening(guests, 110);
+            for (int guest = 0; guest < guests; guest++) {
+                for (int card = 0; card < 8; card++) {
+                    house.prove(guest, card);
+                }
+            }
+            Check.due("one deal", house.deals(), 1);
+            Check.due("its culprit", house.likeliest(), Houses.culprit(guests, 110));
+            Check.due("its culprit alone", house.culprits(), 1 << Houses.culprit(guests, 110));
+        }
+    }
+
+    /** Wrong answers in all deals make no card of those who gave them. */
+    private static void likeliestIsACard() {
+        SecretDinner house = Houses.evening(3, 115);
+        for (int guest = 0; guest < 3; guest++) {
+            house.ask(guest, 255, true);
+            Check.due("of eight alike the lowest", house.likeliest(), 0);
+            Check.due("all eight", house.culprits(), 255);
+            Check.due("all eight of the first", house.guest(0, 5), 255);
+            Check.due("none for certain", house.guest(2, 4), 0);
+        }
     }
 
     private static void likeliestBeforeTheFirstEvening() {
@@ -374,6 +402,11 @@ public final class EdgePossibleTest {
         Check.due("one of two", house.bestCards(3), 64);
         house.prove(3, 6);
         Check.due("there is nothing to ask", house.bestCards(3), 1);
+        SecretDinner second = eveningOfALiar(1);
+        for (int card : new int[] {0, 3, 4, 5, 6, 7}) {
+            second.prove(3, card);
+        }
+        Check.due("card 1, of the cards 1 and 2", second.bestCards(3), 2);
     }
 
     /** The last set counts, too: the cards 6 and 7, if guest 0 has neither of them. */

@@ -11,6 +11,7 @@ public final class EdgeTermsTest {
         eightNumbersAreDrawn();
         eachCardMayBeTheCulprits();
         noCardIsLeftOut();
+        eachEveningIsDealtAnew();
         allGuestsAreHereAgain();
         nobodyHasLiedAgain();
         theTrueAnswerFromNoneToAll();
@@ -123,6 +124,18 @@ public final class EdgeTermsTest {
                     cards |= hand;
                 }
                 Check.due("each card once", cards, 255);
+            }
+        }
+    }
+
+    private static void eachEveningIsDealtAnew() {
+        SecretDinner house = new SecretDinner();
+        for (int s = 0; s < 30; s++) {
+            int guests = 3 + s % 3 % 2;
+            house.begin(guests, s);
+            Check.due("the culprit's card", house.accuse(0), Houses.culprit(guests, s));
+            for (int guest = 0; guest < guests; guest++) {
+                Check.due("hand", house.guest(guest, 7), Houses.hand(guests, s, guest));
             }
         }
     }

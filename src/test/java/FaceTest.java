@@ -52,8 +52,11 @@ public final class FaceTest {
         noOtherMembers();
         namesOfThePublicOnes();
         String code = withoutComments(Files.readString(Path.of(SOURCE)));
+        plainSigns();
         forbiddenWords(code);
+        rowsAreMadeWithTheObject(code);
         lengths(code);
+        room();
         Check.end();
     }
 
@@ -140,6 +143,62 @@ public final class FaceTest {
         while (thrown.find()) {
             String form = " new (IllegalArgument|IllegalState|IndexOutOfBounds)Exception\\(\"[^\"]*\"\\)";
             Check.due("throw" + thrown.group(1), thrown.group(1).matches(form), true);
+        }
+    }
+
+    private static void plainSigns() throws IOException {
+        int other = 0;
+        for (byte sign : Files.readAllBytes(Path.of(SOURCE))) {
+            other += sign < 1 ? 1 : 0;
+        }
+        Check.due("signs that are not from 1 to 127", other, 0);
+        Check.due("some twelve classes", SecretDinner.class.getDeclaredClasses().length <= 11, true);
+    }
+
+    /** No call makes anything but exceptions: what 512 calls make has to fit into one room. */
+    private static void rowsAreMadeWithTheObject(String code) {
+        for (String line : code.split("\n")) {
+            String made = line.strip();
+            boolean allowed = made.matches("throw new .*") || made.equals("saved[i] = new Dinner();")
+                    || made.matches("private final \\S+ \\w+ = new .*");
+            Check.due("made in \"" + made + "\"", allowed || !made.matches(".*\\bnew\\b.*"), true);
+        }
+    }
+
+    /** The elements and fields of one object, with all that it holds: of 7.3 million that the room has. */
+    private static void room() {
+        long size = sizeOf(new SecretDinner());
+        Check.due("an object has " + size + " fields and elements", size > 0 && size < 40000, true);
+    }
+
+    private static long sizeOf(Object held) {
+        if (held instanceof int[] ints) {
+            return ints.length;
+        }
+        if (held instanceof long[] longs) {
+            return longs.length;
+        }
+        long size = 0;
+        if (held instanceof Object[] objects) {
+            for (Object one : objects) {
+                size += 1 + sizeOf(one);
+            }
+            return size;
+        }
+        for (Field field : held.getClass().getDeclaredFields()) {
+            if (!Modifier.isStatic(field.getModifiers())) {
+                size += 1 + (field.getType().isPrimitive() ? 0 : sizeOf(valueOf(field, held)));
+            }
+        }
+        return size;
+    }
+
+    private static Object valueOf(Field field, Object held) {
+        try {
+            field.setAccessible(true);
+            return field.get(held);
+        } catch (IllegalAccessException e) {
+            throw new AssertionError(e);
         }
     }
 
