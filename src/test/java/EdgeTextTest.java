@@ -9,6 +9,7 @@ public final class EdgeTextTest {
         bytesFromZeroTo127();
         ninetyBytes();
         clearEmptyAndFull();
+        oldBytesAreGone();
         noItems();
         everyFirstByte();
         everyGuestByte();
@@ -97,6 +98,17 @@ public final class EdgeTextTest {
         Check.due("full", house.clearText(), 90);
         Check.due("empty again", house.clearText(), 0);
         Check.due("from the start", house.append('g'), 1);
+    }
+
+    /** The bytes of an emptied text do not stand behind those of a shorter one. */
+    private static void oldBytesAreGone() {
+        String text = "a0:1;p1:2;g2;l1:0347;";
+        for (int length = 0; length < text.length(); length++) {
+            SecretDinner house = Houses.evening(3, 130);
+            Houses.write(house, text);
+            Houses.write(house, text.substring(0, length));
+            Check.due("the first " + length + " bytes", house.play(), playOf(text.substring(0, length), 3));
+        }
     }
 
     // ---- text
